@@ -478,7 +478,7 @@ public final class LikeLastYears {
     /** A text without a fault may still want its end: a FEATURE's digit, or the one behind "+". */
     private static boolean isJudge(Row page, int features) {
         int length = page.size();
-        return length > 0 && length >= features && firstFault(page, features) == length && page.last() != '+';
+        return length >= features && firstFault(page, features) == length && page.last() != '+';
     }
 
     // ---- what is found out
@@ -708,8 +708,9 @@ public final class LikeLastYears {
 
         /** The PORTRAIT with a SLIP of a FEATURE by 1 or -1; NONE: there is none. */
         int slip(int portrait, int f, int by) {
-            int to = features[f].slipped(sizeIn(portrait, f), by);
-            return to == NONE ? NONE : with(portrait, f, to);
+            int now = sizeIn(portrait, f);
+            int to = features[f].slipped(now, by);
+            return to == NONE ? NONE : portrait + (to - now) * POWER[f];
         }
 
         int gap(int a, int b) {
@@ -861,18 +862,29 @@ public final class LikeLastYears {
             }
         }
 
-        /** The JUDGES, as bits, who let a new PORTRAIT pass behind an old one. */
+        /**
+         * The JUDGES, as bits, who let a new PORTRAIT pass behind an old one. All searches wait for
+         * this one, so it takes figure by figure off the numbers, and asks a KIND for unlike ones alone.
+         */
         int willing(int old, int fresh, int king) {
             int who = (1 << size) - 1;
             int all = 0;
+            int before = old;
+            int after = fresh;
+            int like = king;
             for (int f = 0; f < looks.size(); f++) {
-                int newSize = Looks.sizeIn(fresh, f);
-                int gap = looks.at(f).gap(Looks.sizeIn(old, f), newSize);
-                all += gap;
-                who &= allowing[f * SIZES + gap];
-                if (newSize != Looks.sizeIn(king, f)) {
+                int newSize = after % SIZES;
+                if (newSize != before % SIZES) {
+                    int gap = looks.at(f).gap(before % SIZES, newSize);
+                    all += gap;
+                    who &= allowing[f * SIZES + gap];
+                }
+                if (newSize != like % SIZES) {
                     who &= ~binding[f];
                 }
+                before /= SIZES;
+                after /= SIZES;
+                like /= SIZES;
             }
             return who & allowingAll[all];
         }

@@ -132,6 +132,9 @@ public final class JudgesTest {
             c.due("the page is empty then", x.count(5), 0);
             c.due("count(2)", x.count(2), j + 1);
         }
+        c.due("told(4, 3)", x.told(4, 3), 0);
+        c.due("told(4, 4)", x.told(4, 4), 9);
+        c.due("told(5, 0)", x.told(5, 0), UNKNOWN);
         x.letters(Checks.word("1111"));
         c.refused(x, "a sixth judge", FULL, () -> x.judge());
         c.due("the page is as it was", x.count(5), 4);
@@ -274,6 +277,8 @@ public final class JudgesTest {
         c.due("digits as strict as tens", strictOf(Checks.begun(0, 5, 0, 5), "22", "99+1"), 0);
         c.due("tens stricter", strictOf(Checks.begun(0, 5, 0, 5), "32", "99+1"), 1);
         c.due("digits stricter", strictOf(Checks.begun(0, 5, 0, 5), "99+1", "31"), 1);
+        // of three features "111" lets 27 pass, "099" 100 and "990" with tens of 1, within 3, 25
+        c.due("of three", strictOf(Checks.begun(0, 5, 0, 5, 0, 5), "099", "111", "990+1"), 2);
         // the king has grown older than his portrait: "09!" lets none pass, "00" one
         LikeLastYears x = Checks.begun(1, 5, 0, 5);
         x.paint(55);

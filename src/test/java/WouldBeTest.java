@@ -272,6 +272,7 @@ public final class WouldBeTest {
         span("in the middle", Checks.begun(0, 5, 2, 5), 1, 5, 13, 25);
         span("in a corner", Checks.begun(0, 0, 1, 9), 1, 3, 6, 10);
         span("a beard has no edge", Checks.begun(0, 0, 3, 9), 1, 4, 9, 16);
+        span("three", Checks.begun(0, 5, 2, 5, 4, 5), 1, 7, 25, 63);
         span("four", Checks.begun(0, 5, 1, 5, 2, 5, 3, 5), 1, 9, 41, 129);
         LikeLastYears x = painted(Checks.begun(0, 5, 4, 5), 0);
         Checks.judge(x, "00");
