@@ -544,21 +544,21 @@ public final class LikeLastYears {
         return taken;
     }
 
+    /** Without such a SLIP the same PORTRAIT comes again, LET or not: the YEAR has no SLIP that was LET. */
     private int copied(int years, int seed, int what) {
         int last = painted.last();
         int then = king;
-        int letBy = 0;
+        int slipsLet = 0;
         int s = seed;
         for (int year = 0; year < years; year++) {
             then = looks.aged(then);
             s = nextSeed(s);
             int f = drawn(s, looks.size());
             s = nextSeed(s);
-            int slip = looks.slip(last, f, drawn(s, 2) == 1 ? 1 : -1);
-            int copy = slip == NONE ? last : slip;
-            if (bench.agrees(last, copy, then)) {
+            int copy = looks.slip(last, f, drawn(s, 2) == 1 ? 1 : -1);
+            if (copy != NONE && bench.agrees(last, copy, then)) {
                 last = copy;
-                letBy++;
+                slipsLet++;
             }
         }
         switch (what) {
@@ -567,7 +567,7 @@ public final class LikeLastYears {
             case 1:
                 return looks.gap(last, then);
             case 2:
-                return letBy;
+                return slipsLet;
             default:
                 return s;
         }

@@ -405,8 +405,10 @@ final class PlainModel {
             s = (1103515245L * s + 12345L) % (1L << 31);
             int copy = slip(portrait, f, (int) (s / 65536 % 2));
             if (let(portrait, copy, then)) {
+                if (copy != portrait) {
+                    let++;
+                }
                 portrait = copy;
-                let++;
             }
         }
         return what == 0 ? portrait : what == 1 ? apart(portrait, number(then)) : what == 2 ? let : (int) s;

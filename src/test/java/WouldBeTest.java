@@ -205,6 +205,25 @@ public final class WouldBeTest {
         return NONE;
     }
 
+    /** Of a second feature that begins at 0 and has no judges; a first one that is a beard always has a slip. */
+    private static int yearsWithoutSlip(int years, int seed) {
+        int without = 0;
+        int size = 0;
+        int s = seed;
+        for (int year = 0; year < years; year++) {
+            s = next(s);
+            boolean isSecond = (s >> 16) % 2 == 1;
+            s = next(s);
+            int to = size + ((s >> 16) % 2 == 1 ? 1 : -1);
+            if (isSecond && (to < 0 || to > 9)) {
+                without++;
+            } else if (isSecond) {
+                size = to;
+            }
+        }
+        return without;
+    }
+
     private static void copiesLet() {
         LikeLastYears edge = Checks.begun(3, 9, 1, 9);
         c.due("a beard from 9 on", edge.copies(1, seedOf(0, 1), 0), 90);
@@ -212,11 +231,20 @@ public final class WouldBeTest {
         c.due("a beard less", edge.copies(1, seedOf(0, 0), 0), 98);
         c.due("two apart, and a hair less", edge.copies(1, seedOf(0, 0), 1), 3);
         c.due("a hair from 9 on", edge.copies(1, seedOf(1, 1), 0), 99);
-        c.due("the same portrait is let", edge.copies(1, seedOf(1, 1), 2), 1);
+        c.due("no slip of a hair from 9 on", edge.copies(1, seedOf(1, 1), 2), 0);
+        c.due("a beard from 9 on is a slip", edge.copies(1, seedOf(0, 1), 2), 1);
         c.due("a hair less, as of the king", edge.copies(1, seedOf(1, 0), 1), 1);
         LikeLastYears low = Checks.begun(3, 0, 0, 0);
         c.due("a feature below 0", low.copies(1, seedOf(1, 0), 0), 0);
+        c.due("no slip of a feature below 0", low.copies(1, seedOf(1, 0), 2), 0);
         c.due("a beard below 0", low.copies(1, seedOf(0, 0), 0), 9);
+        c.due("a beard below 0 is a slip", low.copies(1, seedOf(0, 0), 2), 1);
+        c.due("some years without a slip", low.copies(60, 0, 2), 60 - yearsWithoutSlip(60, 0));
+        LikeLastYears marked = Checks.begun(2, 9, 4, 0);
+        c.due("no slip of a scar from 9 on", marked.copies(1, seedOf(0, 1), 2), 0);
+        c.due("a scar less", marked.copies(1, seedOf(0, 0), 2), 1);
+        c.due("no slip of a crown below 0", marked.copies(1, seedOf(1, 0), 2), 0);
+        c.due("a crown more", marked.copies(1, seedOf(1, 1), 2), 1);
 
         LikeLastYears x = Checks.begun(0, 5, 1, 5);
         Checks.judge(x, "10");
