@@ -1,13 +1,33 @@
+import java.lang.reflect.Method;
+import java.lang.reflect.Modifier;
+
 /** What the project's tests share: answers that are due, and calls that must change nothing. */
 final class Checks {
     private int wrong = 0;
     private int checked = 0;
+    private String test = "";
+
+    /** Runs each static method of nothing that is not private, so that none can be forgotten. */
+    void each(Class<?> tests) throws ReflectiveOperationException {
+        for (Method m : tests.getDeclaredMethods()) {
+            if (isTest(m)) {
+                test = m.getName() + ": ";
+                m.invoke(null);
+            }
+        }
+        test = "";
+    }
+
+    static boolean isTest(Method m) {
+        boolean isOpen = Modifier.isStatic(m.getModifiers()) && !Modifier.isPrivate(m.getModifiers());
+        return isOpen && !m.isSynthetic() && m.getParameterCount() == 0;
+    }
 
     void due(String call, long got, long want) {
         checked++;
         if (got != want) {
             wrong++;
-            System.out.println(call + " answered " + got + ", due is " + want);
+            System.out.println(test + call + " answered " + got + ", due is " + want);
         }
     }
 
@@ -31,6 +51,17 @@ final class Checks {
         if (wrong != 0) {
             System.exit(1);
         }
+    }
+
+    /** Beyond a least and a greatest value: one, and as far as an int goes. */
+    static int[] beyond(int least, int greatest) {
+        return new int[] {Integer.MIN_VALUE, least - 1, greatest + 1, Integer.MAX_VALUE};
+    }
+
+    /** What is no PORTRAIT of so many FEATURES. */
+    static int[] noPortraits(int features) {
+        int[] many = {1, 10, 100, 1000, 10000};
+        return beyond(0, many[features] - 1);
     }
 
     /** The bytes of a text of up to eight letters, as letters() takes them. */
@@ -61,5 +92,42 @@ final class Checks {
         x.blank();
         x.letters(word(text));
         return x.judge();
+    }
+
+    static LikeLastYears judged(LikeLastYears x, String... texts) {
+        for (String text : texts) {
+            judge(x, text);
+        }
+        return x;
+    }
+
+    static LikeLastYears painted(LikeLastYears x, int... portraits) {
+        for (int portrait : portraits) {
+            x.paint(portrait);
+        }
+        return x;
+    }
+
+    static LikeLastYears people(LikeLastYears x, int... portraits) {
+        for (int portrait : portraits) {
+            x.person(portrait);
+        }
+        return x;
+    }
+
+    static LikeLastYears heaped(LikeLastYears x, int... portraits) {
+        for (int portrait : portraits) {
+            x.heap(portrait);
+        }
+        return x;
+    }
+
+    /** The KING as he is now, as a PORTRAIT's number. */
+    static int king(LikeLastYears x) {
+        int king = 0;
+        for (int f = x.count(0) - 1; f >= 0; f--) {
+            king = king * 10 + x.about(f, 1);
+        }
+        return king;
     }
 }

@@ -29,51 +29,37 @@ public final class PeopleHeapTest {
         c.due("no line, outside", Checks.features(0, 5, 0, 5).person(-1), STATE);
     }
 
-    private static LikeLastYears people(LikeLastYears x, int... portraits) {
-        for (int portrait : portraits) {
-            x.person(portrait);
-        }
-        return x;
-    }
-
     private static void gateByApart() {
         c.due("no line", Checks.features(0, 5, 0, 5).gate(), STATE);
         c.due("nobody", Checks.begun(0, 5, 0, 5).gate(), NONE);
-        c.due("one", people(Checks.begun(0, 5, 0, 5), 99).gate(), 0);
-        c.due("least far", people(Checks.begun(0, 5, 0, 5), 99, 57, 64, 56, 65).gate(), 3);
-        c.due("of like ones the least", people(Checks.begun(0, 5, 0, 5), 99, 65, 56).gate(), 1);
-        c.due("by scars", people(Checks.begun(2, 5, 0, 5), 56, 85, 95).gate(), 1);
-        c.due("by beards", people(Checks.begun(3, 9, 0, 5), 56, 50, 51).gate(), 1);
+        c.due("one", Checks.people(Checks.begun(0, 5, 0, 5), 99).gate(), 0);
+        c.due("least far", Checks.people(Checks.begun(0, 5, 0, 5), 99, 57, 64, 56, 65).gate(), 3);
+        c.due("of like ones the least", Checks.people(Checks.begun(0, 5, 0, 5), 99, 65, 56).gate(), 1);
+        c.due("by scars", Checks.people(Checks.begun(2, 5, 0, 5), 56, 85, 95).gate(), 1);
+        c.due("by beards", Checks.people(Checks.begun(3, 9, 0, 5), 56, 50, 51).gate(), 1);
         LikeLastYears x = Checks.begun(0, 5, 1, 9);
         x.paint(11);
-        c.due("from the last portrait, not from the king", people(x, 85, 95, 13).gate(), 2);
-    }
-
-    private static LikeLastYears judged(LikeLastYears x, String... texts) {
-        for (String text : texts) {
-            Checks.judge(x, text);
-        }
-        return x;
+        c.due("from the last portrait, not from the king", Checks.people(x, 85, 95, 13).gate(), 2);
     }
 
     private static void gateByJudges() {
-        LikeLastYears none = people(judged(Checks.begun(0, 5, 0, 5), "00", "11"), 57, 99);
+        LikeLastYears none = Checks.people(Checks.judged(Checks.begun(0, 5, 0, 5), "00", "11"), 57, 99);
         c.due("no judge lets any", none.gate(), NONE);
-        c.due("one judge is enough", people(none, 44).gate(), 2);
-        LikeLastYears most = people(judged(Checks.begun(0, 5, 0, 5), "09", "90", "91"), 65, 56, 66, 54);
+        c.due("one judge is enough", Checks.people(none, 44).gate(), 2);
+        LikeLastYears most = Checks.people(Checks.judged(Checks.begun(0, 5, 0, 5), "09", "90", "91"), 65, 56, 66, 54);
         // 65: by the first and the third; 56: by the second and the third; 66: by the third
         c.due("most judges, of like ones the least", most.gate(), 0);
-        LikeLastYears far = people(judged(Checks.begun(0, 5, 0, 5), "09", "09", "11"), 56, 95, 65);
+        LikeLastYears far = Checks.people(Checks.judged(Checks.begun(0, 5, 0, 5), "09", "09", "11"), 56, 95, 65);
         c.due("most judges ahead of least far", far.gate(), 2);
-        LikeLastYears farther = people(judged(Checks.begun(0, 5, 0, 5), "09", "09", "11"), 56, 95, 85, 75);
+        LikeLastYears farther = Checks.people(Checks.judged(Checks.begun(0, 5, 0, 5), "09", "09", "11"), 56, 95, 85, 75);
         c.due("least far of those", farther.gate(), 3);
         LikeLastYears king = Checks.begun(1, 5, 0, 5);
         king.paint(55);
         // 65 would be let by the second judge, had the king not lost a hair
-        c.due("by the king as he is", people(judged(king, "90!", "09!"), 65, 53).gate(), 1);
+        c.due("by the king as he is", Checks.people(Checks.judged(king, "90!", "09!"), 65, 53).gate(), 1);
         LikeLastYears bound = Checks.begun(1, 5, 0, 5);
         bound.paint(55);
-        c.due("by the king as he is, none", people(judged(bound, "09!"), 55, 54).gate(), NONE);
+        c.due("by the king as he is, none", Checks.people(Checks.judged(bound, "09!"), 55, 54).gate(), NONE);
     }
 
     private static void heap() {

@@ -86,76 +86,69 @@ public final class WouldBeTest {
         c.due(of + ", nothing else changed", x.digest(), before + 2 * 31);
     }
 
-    private static LikeLastYears painted(LikeLastYears x, int... portraits) {
-        for (int portrait : portraits) {
-            x.paint(portrait);
-        }
-        return x;
-    }
-
     private static void truthSoon() {
         truth("like him now", Checks.begun(1, 5, 3, 5), 0, NONE);
-        truth("the first unlike", painted(Checks.begun(0, 5, 0, 5), 59), 1, 0);
-        truth("the second unlike", painted(Checks.begun(0, 5, 0, 5), 95), 1, 1);
-        truth("both unlike", painted(Checks.begun(0, 5, 0, 5), 99), 2, 0);
-        truth("four unlike", painted(Checks.begun(0, 5, 0, 5, 2, 5, 4, 5), 9999), 4, 0);
+        truth("the first unlike", Checks.painted(Checks.begun(0, 5, 0, 5), 59), 1, 0);
+        truth("the second unlike", Checks.painted(Checks.begun(0, 5, 0, 5), 95), 1, 1);
+        truth("both unlike", Checks.painted(Checks.begun(0, 5, 0, 5), 99), 2, 0);
+        truth("four unlike", Checks.painted(Checks.begun(0, 5, 0, 5, 2, 5, 4, 5), 9999), 4, 0);
         // king 65 now and 55 then
-        truth("a hair", painted(Checks.begun(0, 5, 1, 7), 75), 1, 1);
+        truth("a hair", Checks.painted(Checks.begun(0, 5, 1, 7), 75), 1, 1);
         // the hair must be last, for he loses more of it
-        truth("a hair last", painted(Checks.begun(1, 7, 0, 5), 97), 2, 1);
-        truth("a beard last", painted(Checks.begun(3, 7, 2, 5), 97), 2, 1);
+        truth("a hair last", Checks.painted(Checks.begun(1, 7, 0, 5), 97), 2, 1);
+        truth("a beard last", Checks.painted(Checks.begun(3, 7, 2, 5), 97), 2, 1);
         // king 60 now, 50 in the first year: the portrait is like him by itself
-        truth("by itself", painted(Checks.begun(0, 0, 1, 7), 50), 1, 0);
+        truth("by itself", Checks.painted(Checks.begun(0, 0, 1, 7), 50), 1, 0);
     }
 
     private static void truthByWaiting() {
         // two hairs, one a year: not before both are gone, 8 years on, and one year more
-        truth("two hairs", painted(Checks.begun(1, 9, 1, 9), 99), 9, 0);
+        truth("two hairs", Checks.painted(Checks.begun(1, 9, 1, 9), 99), 9, 0);
         // beards of 66 now are 55 in 9 years
-        truth("two beards", painted(Checks.begun(3, 5, 3, 5), 55), 9, 0);
+        truth("two beards", Checks.painted(Checks.begun(3, 5, 3, 5), 55), 9, 0);
         // the hair of 8 is gone in 8 years; the beard of 1 is 3 in 2 years and in 12, 4 in 3 and in 13
         for (String text : new String[] {"00", "00!"}) {
-            LikeLastYears in12 = painted(Checks.begun(1, 9, 3, 0), 30);
+            LikeLastYears in12 = Checks.painted(Checks.begun(1, 9, 3, 0), 30);
             Checks.judge(in12, text);
             truth("in 12 by " + text, in12, 12, NONE);
-            LikeLastYears in13 = painted(Checks.begun(1, 9, 3, 0), 40);
+            LikeLastYears in13 = Checks.painted(Checks.begun(1, 9, 3, 0), 40);
             Checks.judge(in13, text);
             truth("in 13 by " + text, in13, NONE, NONE);
         }
     }
 
     private static void truthWithJudges() {
-        LikeLastYears far = painted(Checks.begun(0, 5, 0, 5), 59);
+        LikeLastYears far = Checks.painted(Checks.begun(0, 5, 0, 5), 59);
         Checks.judge(far, "39");
         truth("too far apart", far, NONE, NONE);
-        LikeLastYears near = painted(Checks.begun(0, 5, 0, 5), 59);
+        LikeLastYears near = Checks.painted(Checks.begun(0, 5, 0, 5), 59);
         Checks.judge(near, "49");
         truth("near enough", near, 1, 0);
-        LikeLastYears tens = painted(Checks.begun(0, 5, 0, 5), 59);
+        LikeLastYears tens = Checks.painted(Checks.begun(0, 5, 0, 5), 59);
         Checks.judge(tens, "99+1");
         truth("too far in all", tens, NONE, NONE);
         // The first is not let while the second, where the judge wants the king, is unlike him.
-        LikeLastYears bound = painted(Checks.begun(0, 5, 0, 5), 99);
+        LikeLastYears bound = Checks.painted(Checks.begun(0, 5, 0, 5), 99);
         Checks.judge(bound, "90!");
         Checks.judge(bound, "99");
         truth("the second cannot be", bound, NONE, NONE);
-        LikeLastYears second = painted(Checks.begun(0, 5, 0, 5), 99);
+        LikeLastYears second = Checks.painted(Checks.begun(0, 5, 0, 5), 99);
         Checks.judge(second, "90!");
         Checks.judge(second, "99");
         Checks.judge(second, "09");
         truth("the second first", second, 2, 1);
         // Beard 6 now, 5 painted, one apart: in 8 years he has 4. What is like him may become so.
-        LikeLastYears wait = painted(Checks.begun(3, 5, 0, 5), 55);
+        LikeLastYears wait = Checks.painted(Checks.begun(3, 5, 0, 5), 55);
         Checks.judge(wait, "11");
         truth("a feature that is so already", wait, 8, 1);
         // The scar is like his, but the judge wants his hair, too, which is gone in two years.
-        LikeLastYears none = painted(Checks.begun(1, 3, 2, 5), 50);
+        LikeLastYears none = Checks.painted(Checks.begun(1, 3, 2, 5), 50);
         Checks.judge(none, "08!");
         truth("none in the first year", none, 2, NONE);
     }
 
     private static void truthThirtyTimes() {
-        LikeLastYears x = painted(Checks.begun(0, 5, 0, 5), 59);
+        LikeLastYears x = Checks.painted(Checks.begun(0, 5, 0, 5), 59);
         c.refused(x, "truth(2)", OUTSIDE, () -> x.truth(2));
         for (int i = 1; i <= 30; i++) {
             c.due("truth() time " + i, x.truth(i % 2), i % 2 == 0 ? 1 : 0);
@@ -274,7 +267,7 @@ public final class WouldBeTest {
     }
 
     private static void back() {
-        LikeLastYears x = painted(Checks.begun(0, 5, 1, 5, 2, 5, 3, 5), 8375);
+        LikeLastYears x = Checks.painted(Checks.begun(0, 5, 1, 5, 2, 5, 3, 5), 8375);
         c.due("the last one itself", x.back(8375), 0);
         c.due("a slip each", x.back(9264), 4);
         c.due("a scar by slips", x.back(8075), 3);
@@ -282,7 +275,7 @@ public final class WouldBeTest {
         c.due("all", x.back(0), 5 + 7 + 3 + 2);
         Checks.judge(x, "0000");
         c.due("judges do not matter", x.back(0), 5 + 7 + 3 + 2);
-        c.due("the farthest", painted(Checks.begun(0, 5, 1, 5, 2, 5, 4, 5), 0).back(9999), 36);
+        c.due("the farthest", Checks.painted(Checks.begun(0, 5, 1, 5, 2, 5, 4, 5), 0).back(9999), 36);
         for (int bad : new int[] {Integer.MIN_VALUE, -1, 10000, Integer.MAX_VALUE}) {
             c.refused(x, "back(" + bad + ")", OUTSIDE, () -> x.back(bad));
         }
@@ -302,7 +295,7 @@ public final class WouldBeTest {
         span("a beard has no edge", Checks.begun(0, 0, 3, 9), 1, 4, 9, 16);
         span("three", Checks.begun(0, 5, 2, 5, 4, 5), 1, 7, 25, 63);
         span("four", Checks.begun(0, 5, 1, 5, 2, 5, 3, 5), 1, 9, 41, 129);
-        LikeLastYears x = painted(Checks.begun(0, 5, 4, 5), 0);
+        LikeLastYears x = Checks.painted(Checks.begun(0, 5, 4, 5), 0);
         Checks.judge(x, "00");
         span("from the last one, without judges", x, 1, 3, 6, 10);
         for (int bad : new int[] {Integer.MIN_VALUE, -1, 4, Integer.MAX_VALUE}) {
