@@ -695,28 +695,32 @@ public final class LikeLastYears {
         }
 
         boolean isPortrait(int number) {
-            return number >= 0 && number < POWER[size];
+            return number >= 0 && number < tenTo(size);
+        }
+
+        private static int tenTo(int power) {
+            return power >= 0 && power < POWER.length ? POWER[power] : 1;
         }
 
         static int sizeIn(int portrait, int f) {
-            return portrait / POWER[f] % SIZES;
+            return portrait / tenTo(f) % SIZES;
         }
 
         int with(int portrait, int f, int newSize) {
-            return portrait + (newSize - sizeIn(portrait, f)) * POWER[f];
+            return portrait + (newSize - sizeIn(portrait, f)) * tenTo(f);
         }
 
         /** The PORTRAIT with a SLIP of a FEATURE by 1 or -1; NONE: there is none. */
         int slip(int portrait, int f, int by) {
             int now = sizeIn(portrait, f);
-            int to = features[f].slipped(now, by);
-            return to == NONE ? NONE : portrait + (to - now) * POWER[f];
+            int to = at(f).slipped(now, by);
+            return to == NONE ? NONE : portrait + (to - now) * tenTo(f);
         }
 
         int gap(int a, int b) {
             int all = 0;
             for (int f = 0; f < size; f++) {
-                all += features[f].gap(sizeIn(a, f), sizeIn(b, f));
+                all += at(f).gap(sizeIn(a, f), sizeIn(b, f));
             }
             return all;
         }
@@ -724,7 +728,7 @@ public final class LikeLastYears {
         int steps(int a, int b) {
             int all = 0;
             for (int f = 0; f < size; f++) {
-                all += features[f].steps(sizeIn(a, f), sizeIn(b, f));
+                all += at(f).steps(sizeIn(a, f), sizeIn(b, f));
             }
             return all;
         }
@@ -733,7 +737,7 @@ public final class LikeLastYears {
         int aged(int portrait) {
             int older = portrait;
             for (int f = 0; f < size; f++) {
-                older = with(older, f, features[f].aged(sizeIn(portrait, f)));
+                older = with(older, f, at(f).aged(sizeIn(portrait, f)));
             }
             return older;
         }
@@ -811,7 +815,7 @@ public final class LikeLastYears {
         }
 
         int mark(int judge, int what) {
-            return marks[judge * MARKS + what];
+            return has(judge) && what >= 0 && what < MARKS ? marks[judge * MARKS + what] : NONE;
         }
 
         boolean allows(int judge, int f, int gap) {
@@ -847,7 +851,7 @@ public final class LikeLastYears {
 
         private void noteBits(int judge) {
             int bit = 1 << judge;
-            for (int f = 0; f < looks.size(); f++) {
+            for (int f = 0; f < looks.size() && f < MOST_FEATURES; f++) {
                 for (int gap = 0; gap < SIZES; gap++) {
                     if (allows(judge, f, gap)) {
                         allowing[f * SIZES + gap] |= bit;
@@ -857,7 +861,7 @@ public final class LikeLastYears {
                     binding[f] |= bit;
                 }
             }
-            for (int gap = 0; gap <= farthest(judge); gap++) {
+            for (int gap = 0; gap <= farthest(judge) && gap <= FARTHEST; gap++) {
                 allowingAll[gap] |= bit;
             }
         }
@@ -872,12 +876,12 @@ public final class LikeLastYears {
             int before = old;
             int after = fresh;
             int like = king;
-            for (int f = 0; f < looks.size(); f++) {
+            for (int f = 0; f < looks.size() && f < MOST_FEATURES; f++) {
                 int newSize = after % SIZES;
                 if (newSize != before % SIZES) {
                     int gap = looks.at(f).gap(before % SIZES, newSize);
                     all += gap;
-                    who &= allowing[f * SIZES + gap];
+                    who &= whoAllow(f, gap);
                 }
                 if (newSize != like % SIZES) {
                     who &= ~binding[f];
@@ -886,7 +890,18 @@ public final class LikeLastYears {
                 after /= SIZES;
                 like /= SIZES;
             }
-            return who & allowingAll[all];
+            return who & whoAllowAll(all);
+        }
+
+        /** The JUDGES who allow a FEATURE to be so far APART. */
+        private int whoAllow(int f, int gap) {
+            int at = f * SIZES + gap;
+            return at >= 0 && at < allowing.length ? allowing[at] : 0;
+        }
+
+        /** The JUDGES who allow PORTRAITS to be so far APART. */
+        private int whoAllowAll(int gap) {
+            return gap >= 0 && gap <= FARTHEST ? allowingAll[gap] : 0;
         }
 
         /** Whether a new PORTRAIT is LET behind an old one. */
@@ -981,7 +996,7 @@ public final class LikeLastYears {
                 for (; done < end; done++) {
                     slipFrom(row[done], king);
                 }
-                if (seen[to] == round) {
+                if (isReached(to)) {
                     return slips;
                 }
             }
@@ -992,7 +1007,7 @@ public final class LikeLastYears {
             for (int f = 0; f < looks.size(); f++) {
                 for (int by = -1; by <= 1; by += 2) {
                     int to = looks.slip(portrait, f, by);
-                    if (to != NONE && seen[to] != round && bench.agrees(portrait, to, king)) {
+                    if (to != NONE && !isReached(to) && bench.agrees(portrait, to, king)) {
                         reach(to, 0);
                     }
                 }
@@ -1009,7 +1024,7 @@ public final class LikeLastYears {
             for (int year = 1; year <= MOST_TRUE_YEARS && trueYears == NONE; year++) {
                 then = looks.aged(then);
                 passYear(then, year == 1);
-                if (seen[then] == round) {
+                if (isReached(then)) {
                     trueYears = year;
                     firstTrue = firstOf(then);
                 }
@@ -1031,11 +1046,11 @@ public final class LikeLastYears {
                 int first = before[i] / MOST_PORTRAITS;
                 for (int f = 0; f < looks.size(); f++) {
                     int truer = looks.with(portrait, f, Looks.sizeIn(king, f));
-                    if (seen[truer] != round && bench.agrees(portrait, truer, king)) {
+                    if (!isReached(truer) && bench.agrees(portrait, truer, king)) {
                         reach(truer, isFirst ? f : first);
                     }
                 }
-                if (seen[portrait] != round) {
+                if (!isReached(portrait)) {
                     reach(portrait, isFirst ? NO_FEATURE : first);
                 }
             }
@@ -1056,8 +1071,12 @@ public final class LikeLastYears {
             size = 0;
         }
 
+        private boolean isReached(int portrait) {
+            return portrait >= 0 && portrait < MOST_PORTRAITS && seen[portrait] == round;
+        }
+
         private void reach(int portrait, int first) {
-            if (size < MOST_PORTRAITS) {
+            if (size < MOST_PORTRAITS && portrait >= 0 && portrait < MOST_PORTRAITS) {
                 seen[portrait] = round;
                 row[size] = first * MOST_PORTRAITS + portrait;
                 size++;

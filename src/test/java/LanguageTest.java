@@ -9,25 +9,42 @@ import java.util.ArrayList;
 import java.util.List;
 import java.util.Set;
 import java.util.TreeSet;
+import java.util.regex.Matcher;
+import java.util.regex.Pattern;
 
 /** The public face of the document, and rules of LANGUAGE.md that can be seen from outside. */
 public final class LanguageTest {
     private static final String SOURCE = "src/main/java/LikeLastYears.java";
-    private static final String[] FACE = {
-        "int feature(int, int)", "int about(int, int)", "int as(int, int)", "int begin()", "int apart(int, int)",
-        "int paint(int)", "int line(int)", "int letters(long)", "int blank()", "int fault()", "int judge()",
-        "int told(int, int)", "int lets(int, int)", "int strict()", "int slips(int, int)", "int truth(int)",
-        "int copies(int, int, int)", "int back(int)", "int span(int)", "int person(int)", "int gate()", "int heap(int)",
-        "int order(int)", "int image()", "int restore()", "int count(int)", "long digest()"};
+    private static final String DOCUMENT = "../shared/DOC.md";
+    private static final Pattern METHOD = Pattern.compile("(?m)^    public (int|long) (\\w+)\\((.*)\\);$");
+    private static final Pattern CONSTANT = Pattern.compile("\\b([A-Z]+) = (-\\d+)");
     private static final Checks c = new Checks();
 
-    public static void main(String[] args) throws IOException {
-        methods();
-        constants();
+    public static void main(String[] args) throws IOException, ReflectiveOperationException {
+        String face = face(Files.readString(Path.of(DOCUMENT)));
+        methods(face);
+        constants(face);
         classes();
         text(Files.readString(Path.of(SOURCE)));
         room();
         c.end();
+    }
+
+    /** The lines of Java that the document has under "The public face". */
+    private static String face(String document) {
+        Matcher found = Pattern.compile("(?s)## The public face\\s+```java\n(.*?)```").matcher(document);
+        c.due("the document has a public face", found.find());
+        return found.group(1);
+    }
+
+    private static Set<String> faceMethods(String face) {
+        Set<String> methods = new TreeSet<>();
+        Matcher m = METHOD.matcher(face);
+        while (m.find()) {
+            methods.add(m.group(1) + " " + m.group(2) + "(" + m.group(3).replaceAll("(int|long) \\w+", "$1") + ")");
+        }
+        c.due("methods of the face", methods.size(), 27);
+        return methods;
     }
 
     private static String told(Method m) {
@@ -38,7 +55,7 @@ public final class LanguageTest {
         return m.getReturnType().getSimpleName() + " " + m.getName() + "(" + String.join(", ", parameters) + ")";
     }
 
-    private static void methods() {
+    private static void methods(String face) {
         Set<String> open = new TreeSet<>();
         Set<String> openNames = new TreeSet<>();
         for (Method m : LikeLastYears.class.getDeclaredMethods()) {
@@ -48,7 +65,7 @@ public final class LanguageTest {
                 openNames.add(m.getName());
             }
         }
-        c.due("the methods are the document's", open.equals(new TreeSet<>(List.of(FACE))));
+        c.due("the methods are the document's", open.equals(faceMethods(face)));
         List<Class<?>> all = new ArrayList<>(List.of(LikeLastYears.class.getDeclaredClasses()));
         all.add(LikeLastYears.class);
         for (Class<?> k : all) {
@@ -64,19 +81,25 @@ public final class LanguageTest {
         c.due("the class is public and final", LikeLastYears.class.getModifiers(), Modifier.PUBLIC | Modifier.FINAL);
     }
 
-    private static void constants() {
+    private static void constants(String face) throws ReflectiveOperationException {
         Set<String> open = new TreeSet<>();
         for (Field f : LikeLastYears.class.getDeclaredFields()) {
             if (!Modifier.isPrivate(f.getModifiers())) {
                 open.add(f.getName());
+                c.due(f.getName() + " is a constant of int", Modifier.toString(f.getModifiers()).equals("public static final")
+                    && f.getType() == int.class);
             }
         }
-        c.due("the constants are the document's", open.equals(new TreeSet<>(List.of("NONE", "UNKNOWN", "OUTSIDE", "STATE", "FULL"))));
-        c.due("NONE", LikeLastYears.NONE, -1);
-        c.due("UNKNOWN", LikeLastYears.UNKNOWN, -101);
-        c.due("OUTSIDE", LikeLastYears.OUTSIDE, -102);
-        c.due("STATE", LikeLastYears.STATE, -103);
-        c.due("FULL", LikeLastYears.FULL, -104);
+        Matcher constant = CONSTANT.matcher(face);
+        Set<String> due = new TreeSet<>();
+        while (constant.find()) {
+            due.add(constant.group(1));
+            if (open.contains(constant.group(1))) {
+                c.due(constant.group(1), LikeLastYears.class.getField(constant.group(1)).getInt(null), Integer.parseInt(constant.group(2)));
+            }
+        }
+        c.due("constants of the face", due.size(), 5);
+        c.due("the constants are the document's", open.equals(due));
     }
 
     private static void classes() {
