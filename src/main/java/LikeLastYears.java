@@ -712,9 +712,13 @@ public final class LikeLastYears {
 
         /** The PORTRAIT with a SLIP of a FEATURE by 1 or -1; NONE: there is none. */
         int slip(int portrait, int f, int by) {
-            int now = sizeIn(portrait, f);
-            int to = at(f).slipped(now, by);
-            return to == NONE ? NONE : portrait + (to - now) * tenTo(f);
+            if (!has(f)) {
+                return NONE;
+            }
+            int unit = POWER[f];
+            int now = portrait / unit % SIZES;
+            int to = features[f].slipped(now, by);
+            return to == NONE ? NONE : portrait + (to - now) * unit;
         }
 
         int gap(int a, int b) {
@@ -876,12 +880,13 @@ public final class LikeLastYears {
             int before = old;
             int after = fresh;
             int like = king;
-            for (int f = 0; f < looks.size() && f < MOST_FEATURES; f++) {
+            int many = looks.size();
+            for (int f = 0; f < many && f < MOST_FEATURES; f++) {
                 int newSize = after % SIZES;
                 if (newSize != before % SIZES) {
                     int gap = looks.at(f).gap(before % SIZES, newSize);
                     all += gap;
-                    who &= whoAllow(f, gap);
+                    who &= gap >= 0 && gap < SIZES ? allowing[f * SIZES + gap] : 0;
                 }
                 if (newSize != like % SIZES) {
                     who &= ~binding[f];
@@ -890,18 +895,7 @@ public final class LikeLastYears {
                 after /= SIZES;
                 like /= SIZES;
             }
-            return who & whoAllowAll(all);
-        }
-
-        /** The JUDGES who allow a FEATURE to be so far APART. */
-        private int whoAllow(int f, int gap) {
-            int at = f * SIZES + gap;
-            return at >= 0 && at < allowing.length ? allowing[at] : 0;
-        }
-
-        /** The JUDGES who allow PORTRAITS to be so far APART. */
-        private int whoAllowAll(int gap) {
-            return gap >= 0 && gap <= FARTHEST ? allowingAll[gap] : 0;
+            return all >= 0 && all <= FARTHEST ? who & allowingAll[all] : 0;
         }
 
         /** Whether a new PORTRAIT is LET behind an old one. */
@@ -1003,11 +997,12 @@ public final class LikeLastYears {
             return NONE;
         }
 
+        /** Asked so often that it looks into the row itself, rather than by isReached(). */
         private void slipFrom(int portrait, int king) {
             for (int f = 0; f < looks.size(); f++) {
                 for (int by = -1; by <= 1; by += 2) {
                     int to = looks.slip(portrait, f, by);
-                    if (to != NONE && !isReached(to) && bench.agrees(portrait, to, king)) {
+                    if (to >= 0 && to < MOST_PORTRAITS && seen[to] != round && bench.agrees(portrait, to, king)) {
                         reach(to, 0);
                     }
                 }
