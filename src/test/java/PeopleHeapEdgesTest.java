@@ -131,6 +131,17 @@ public final class PeopleHeapEdgesTest {
         c.due("none, by the king as he is", Checks.people(king, 55, 54).gate(), NONE);
     }
 
+    // Promise 22, by the terms: by the KING now, not by the one of the next YEAR nor by the first.
+    // "A JUDGE LETS a new PORTRAIT pass behind an old one, if all that is so."
+    static void gateByTheKingAsHeIs() {
+        LikeLastYears begun = Checks.judged(Checks.begun(HAIR, 5, FEATURE, 5), "09!");
+        c.due("by the king of the beginning", Checks.people(begun, 54, 45).gate(), 1);
+        LikeLastYears older = Checks.judged(Checks.painted(Checks.begun(HAIR, 5, FEATURE, 5), 54), "09!");
+        c.due("by the king a year older", Checks.people(older, 55, 53, 44).gate(), 2);
+        LikeLastYears unlike = Checks.judged(Checks.painted(Checks.begun(HAIR, 5, FEATURE, 5), 53), "09!");
+        c.due("like the king of the next year", Checks.people(unlike, 53, 43).gate(), NONE);
+    }
+
     // Promise 22, by the terms: as far as may be, as near as may be, alike.
     // "(without JUDGES who is least far APART)."
     static void gateWithoutJudges() {
