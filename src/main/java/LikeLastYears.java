@@ -695,19 +695,19 @@ public final class LikeLastYears {
         }
 
         boolean isPortrait(int number) {
-            return number >= 0 && number < tenTo(size);
-        }
-
-        private static int tenTo(int power) {
-            return power >= 0 && power < POWER.length ? POWER[power] : 1;
+            return number >= 0 && size < POWER.length && number < POWER[size];
         }
 
         static int sizeIn(int portrait, int f) {
-            return portrait / tenTo(f) % SIZES;
+            return f >= 0 && f < MOST_FEATURES ? portrait / POWER[f] % SIZES : 0;
         }
 
         int with(int portrait, int f, int newSize) {
-            return portrait + (newSize - sizeIn(portrait, f)) * tenTo(f);
+            if (f < 0 || f >= MOST_FEATURES) {
+                return portrait;
+            }
+            int unit = POWER[f];
+            return portrait + (newSize - portrait / unit % SIZES) * unit;
         }
 
         /** The PORTRAIT with a SLIP of a FEATURE by 1 or -1; NONE: there is none. */
